@@ -922,7 +922,7 @@ public final class SumDispersal {
         private static final int SUMS = OFFERED_VECTOR + MOST_MEMBERS;
         static final int SIZE = SUMS + MOST_VECTORS * MOST_MEMBERS;
 
-        private final Plan plan;
+        final Plan plan;
         final int[] cells = new int[SIZE];
         private final int[] echoes = new int[MOST_VECTORS];
         private final int[] readies = new int[MOST_VECTORS];
