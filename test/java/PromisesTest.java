@@ -145,7 +145,7 @@ public final class PromisesTest {
     }
 
     private static void promise3() {
-        SumDispersal x = made(FOUR, DEAL_FOUR);
+        SumDispersal x = made(FOUR, DEAL_FOUR + "deal 0;");
         book(x, "0 1;");
         x.image();
         x.shelve(0, 0, 3);
@@ -157,6 +157,7 @@ public final class PromisesTest {
         due("its place", x.fault(), 19);
         due("all stays: dealt to", x.told(6), 15);
         due("all stays: lines", x.told(9), 1);
+        due("all stays: refused", x.told(10), 1);
         due("all stays: images", x.count(0), 1);
         due("all stays: works", x.count(2), 1);
         due("all stays: shelf", x.shelf(3), 206);
@@ -288,6 +289,8 @@ public final class PromisesTest {
         for (int i = 0; i < 16; i++) {
             due("work " + i, work(x, "taint 0 0 1;"), 1);
         }
+        book(x, "9 0;");
+        due("a fault ahead", x.fault(), 0);
         feed(x, "deal 9;");
         refused("work(21)", ARGUMENT, () -> x.work(21));
         due("bytes", x.count(1), 20);
@@ -746,6 +749,10 @@ public final class PromisesTest {
         SumDispersal z = made("group 1 0;stripes 3;symbol 0;symbol 0;symbol 2;", "deal 0;");
         refused("a product is beyond", ARITHMETIC, () -> z.sumBy(0, 32768));
         due("a product at 32,767", z.sumBy(0, 32767), 2 * 32767 * 32767);
+        SumDispersal edge = made("group 1 0;stripes 3;symbol 17;symbol 12;symbol 2;traitor 0;", "deal 0;");
+        due("just 32 bits", edge.sumBy(0, 32765), Integer.MAX_VALUE);
+        work(edge, "forge 0 0 1;");
+        refused("one beyond", ARITHMETIC, () -> edge.sumBy(0, 32765));
         SumDispersal two = made(FOUR, "deal 3;");
         due("no third symbol, no third power", two.sumBy(3, 99_999), 18 + 29 * 99_999);
         refused("no fragment", NULL, () -> two.sumBy(0, 97));
@@ -998,6 +1005,11 @@ public final class PromisesTest {
         SumDispersal z = made(FOUR, DEAL_FOUR);
         due("not yet", z.storm(1, 2, 14, 0), 0);
         due("if all hear all", z.storm(1, 2, 14, 2), 15);
+        // Drawn by seed 5: 18655 (by 8: 7), 8457, 10616, 31877 (by 96: 5): taint 0 0 6; 10193: deal 0.
+        SumDispersal w = made("group 1 0;stripes 1;symbol 5;");
+        due("a tainted fragment has another sum", w.storm(5, 2, 0, 0), 0);
+        work(w, "taint 0 0 91;");
+        due("6 more makes it right again", w.storm(5, 2, 0, 0), 1);
         refused("many 0", ARGUMENT, () -> x.storm(1, 0, 0, 0));
         refused("many 97", ARGUMENT, () -> x.storm(1, 97, 0, 0));
         refused("q -1", ARGUMENT, () -> x.storm(1, 1, -1, 0));

@@ -70,15 +70,15 @@ public final class SumDispersal {
         if (taped + 20 > MOST_TAPE) {
             return NONE;
         }
-        record(a);
-        record(b);
-        record(c);
-        record(d);
-        record(e);
+        putOnTape(a);
+        putOnTape(b);
+        putOnTape(c);
+        putOnTape(d);
+        putOnTape(e);
         return taped;
     }
 
-    private void record(int four) {
+    private void putOnTape(int four) {
         for (int shift = 24; shift >= 0 && taped < MOST_TAPE; shift -= 8) {
             tape[taped] = (byte) (four >> shift);
             taped++;
@@ -1201,20 +1201,17 @@ public final class SumDispersal {
             cells[HEARD + what * PAIRS + m * (MOST_MEMBERS + 1)] = vector;
         }
 
-        // READY is said once and DONE comes once, so the third pass changes nothing.
+        // What it says changes its own READY of that vector alone, and by that one it may be DONE,
+        // which is looked at next: so one pass over the vectors leaves nothing to change.
         private void act(int m) {
-            if (said(m, READY) != NONE && doneBy(m) != NONE) {
+            if (doneBy(m) != NONE) {
                 return;
             }
             tally(m, ECHO, echoes);
             tally(m, READY, readies);
-            boolean changed = true;
-            for (int pass = 0; pass < 3 && changed; pass++) {
-                changed = false;
-                for (int v = 0; v < vectors(); v++) {
-                    changed |= becomesReady(m, v);
-                    changed |= becomesDone(m, v);
-                }
+            for (int v = 0; v < vectors(); v++) {
+                sayReadyIfDue(m, v);
+                beDoneIfDue(m, v);
             }
         }
 
@@ -1228,22 +1225,18 @@ public final class SumDispersal {
             }
         }
 
-        private boolean becomesReady(int m, int vector) {
+        private void sayReadyIfDue(int m, int vector) {
             boolean isDue = echoes[vector] >= plan.members - plan.trust || readies[vector] >= plan.trust + 1;
-            if (!isDue || said(m, READY) != NONE) {
-                return false;
+            if (isDue && said(m, READY) == NONE) {
+                utter(m, vector, READY);
+                readies[vector]++;
             }
-            utter(m, vector, READY);
-            readies[vector]++;
-            return true;
         }
 
-        private boolean becomesDone(int m, int vector) {
-            if (readies[vector] < 2 * plan.trust + 1 || doneBy(m) != NONE) {
-                return false;
+        private void beDoneIfDue(int m, int vector) {
+            if (readies[vector] >= 2 * plan.trust + 1 && doneBy(m) == NONE) {
+                cells[DONE_BY + m] = vector;
             }
-            cells[DONE_BY + m] = vector;
-            return true;
         }
     }
 
@@ -1353,7 +1346,6 @@ public final class SumDispersal {
         private void readNumbers(Reader reader, Plan plan, int kind) {
             if (kind == AGAIN) {
                 ones[size] = reader.takeNumber(0, 60);
-                behinds[size] = size + 1;
                 opens[open] = size;
                 open++;
                 return;
