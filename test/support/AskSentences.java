@@ -212,7 +212,13 @@ final class AskSentences extends Sheet {
         due("three to ask of K 2", more.fewest(), 3);
         work(more, "forge 3 0 1;");
         due("none, forged", more.fewest(), -1);
-        due("one of those without a vector", lesserVectorHides().fewest(), 1);
+        due("1 alone", lesserVectorHides().fewest(), 1);
+        // 1, 2, 4, 5 are done by the readies of 0, 3, 6; 2 has no fragment. By bits 1, 2, 3 come ahead of 1, 4.
+        SumDispersal ahead = made("group 7 1;symbol 5;traitor 0;traitor 3;traitor 6;", "deal1;deal3;deal4;deal5;say0 0 1;say3 0 1;say6 0 1;",
+            "hear1 0;hear1 3;hear1 6;hear2 0;hear2 3;hear2 6;hear4 0;hear4 3;hear4 6;hear5 0;hear5 3;hear5 6;");
+        due("1 and 2 are too few", ahead.fetch(6, 0), 0);
+        due("1, 2, 3 are not", ahead.fetch(14, 0), 2);
+        due("but two are, of greater bits", ahead.fewest(), 2);
     }
 
     /** 0 is done by vector 0 without a fragment; 1 by vector 1, by which alone its fragment is right. */
@@ -363,9 +369,31 @@ final class AskSentences extends Sheet {
                 }
             }
         }
+        taintsOfStorms();
         SumDispersal begun = made(FOUR, DEAL_FOUR);
         due("it goes on from what is there", begun.storm(1, 2, 14, 2), 15);
         due("and from a new one", new SumDispersal().storm(1, 2, 14, 2), 0);
+    }
+
+    /** What the storm taints first was tainted by just as much less, so that the deal behind it is right. */
+    private static void taintsOfStorms() {
+        int[] seen = new int[97];
+        for (int seed = 0; seed < 60_000; seed++) {
+            String[] taint = new Drawing(seed).step(2, 3, 0).split("[ ;]");
+            Drawing behind = new Drawing(seed);
+            behind.step(2, 3, 0);
+            if (!taint[0].equals("taint0") || !behind.step(2, 3, 0).equals("deal0;") || seen[Integer.parseInt(taint[2])] == 1) {
+                continue;
+            }
+            int more = Integer.parseInt(taint[2]);
+            seen[more] = 1;
+            String ahead = "say 1 0 0;hear 0 1;taint 0 " + taint[1] + " ";
+            SumDispersal x = made("group 2 0;stripes 3;traitor 1;", ahead + (97 - more) + ";");
+            due("seed " + seed + " taints by " + more, x.storm(seed, 2, 0, 0), 1);
+        }
+        for (int more = 1; more <= 96; more++) {
+            due("a taint by " + more, seen[more], 1);
+        }
     }
 
     /** The same steps told as WORK, drawn here by 64 bits. */

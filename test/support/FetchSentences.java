@@ -94,6 +94,12 @@ final class FetchSentences extends Sheet {
         SumDispersal three = made("group 1 0;stripes 3;symbol 96;symbol 95;symbol 94;symbol 93;", "deal 0;");
         due("K S is 3", three.file(1, 2), 94);
         due("beyond it", three.file(1, 3), 0);
+        SumDispersal less = made("group 1 0;stripes 3;symbol 96;symbol 95;symbol 94;", "deal 0;");
+        due("K S is 3", less.file(1, 2), 94);
+        dispersal(less, "group 1 0;stripes 1;symbol 93;");
+        work(less, "deal 0;");
+        due("K S is 1 then", less.file(1, 0), 93);
+        due("nothing is left of what was found ahead", less.file(1, 2), 0);
         refusedAll(Sheet::forged, ARGUMENT, "found, symbol", (o, i) -> o.file(15, i), -1, 9);
         refusedAll(Sheet::full, ARGUMENT, "not found, symbol", (o, i) -> o.file(15, i), -1, 9);
     }
@@ -131,6 +137,7 @@ final class FetchSentences extends Sheet {
         sentence("UNLIKE.");
         due("none", new SumDispersal().unlike(), 0);
         due("one", forged().unlike(), 1);
+        due("one of one", made("group 1 0;", "deal 0;").unlike(), 1);
     }
 
     private static void fits() {
@@ -187,6 +194,9 @@ final class FetchSentences extends Sheet {
         due("by 10,000", x.sumBy(0, 10_000), 100_050_007);
         due("two symbols, by 99,999", made("group 1 0;stripes 2;symbol 96;symbol 96;", "deal 0;").sumBy(0, 99_999), 9_600_000);
         due("one symbol, by 99,999", made("group 1 0;stripes 1;symbol 96;symbol 96;", "deal 0;").sumBy(0, 99_999), 96);
+        SumDispersal four = made(FOUR, DEAL_FOUR);
+        due("of 1", four.sumBy(1, 1000), 11_014);
+        due("of 3", four.sumBy(3, 1000), 29_018);
         due("of a forged one", made("group 1 0;stripes 2;traitor 0;", "deal 0;forge 0 1 3;").sumBy(0, 10), 30);
         refusedAll(Sheet::full, ARGUMENT, "base", (o, base) -> base >= 1 && base <= 99_999 ? o.sumBy(0, 0) : o.sumBy(0, base), 0, -1, 100_000);
         refused(Sheet::full, ARGUMENT, "a wrong base ahead of no fragment", o -> o.sumBy(1, 0));
@@ -356,7 +366,10 @@ final class FetchSentences extends Sheet {
         work(flat, "forge 2 0 1;");
         due("K 1: one", smooth(flat, 4), 1);
         due("K 1: two", smooth(flat, 5), 0);
-        // 5 + x through 1, 2, 3 (6, 7, 8) where m's is at m + 1, not at m.
+        SumDispersal deep = made("group 4 1;stripes 3;symbol 1;symbol 2;symbol 3;symbol 4;symbol 5;symbol 6;traitor 0;", DEAL_FOUR);
+        due("three stripes", smooth(deep, 15), 1);
+        work(deep, "forge 0 2 1;");
+        due("the third stripe forged", smooth(deep, 15), 0);
         SumDispersal moved = made("group 4 1;stripes 1;symbol 96;symbol 96;", DEAL_FOUR);
         due("what is left by 97 counts", smooth(moved, 15), 1);
     }

@@ -25,6 +25,8 @@ final class LastSentences extends Sheet {
                 due("nothing heard, " + n + " " + t, made("group " + n + " " + t + ";").lacks(n - 1), n - t);
             }
         }
+        due("two of 0, none of others", made("", "deal 0;deal 1;hear 0 1;").lacks(0), 1);
+        due("two of 0, one of 1", made("traitor 3;", "skew 3 0 1;deal 0;deal 1;say 3 1 0;hear 0 1;hear 0 3;").lacks(0), 1);
         SumDispersal x = made("group 7 2;traitor 1;traitor 2;traitor 3;traitor 4;traitor 5;traitor 6;",
             "skew 6 0 1;deal 0;say1 1 0;say2 1 0;say3 1 0;hear0 1;");
         due("its own of 0, one of 1", x.lacks(0), 4);
@@ -152,6 +154,7 @@ final class LastSentences extends Sheet {
         due("three of seven", x.loose(127), 3);
         due("K are left at least", x.loose(1 + 2 + 112), 2);
         due("without fragments none", new SumDispersal().loose(15), 0);
+        due("all, and all are smooth", made(FOUR, DEAL_FOUR).loose(15), 0);
         SumDispersal flat = made("group 7 0;stripes 1;traitor 0;traitor 1;traitor 2;traitor 3;traitor 4;traitor 5;",
             "deal0;deal1;deal2;deal3;deal4;deal5;deal6;forge1 0 1;forge2 0 2;forge3 0 3;forge4 0 4;forge5 0 5;forge0 0 6;");
         due("all but one", flat.loose(127), 6);

@@ -1,3 +1,5 @@
+import java.util.function.Consumer;
+
 /** The first passage of "Terms": the texts, their limits and their FAULTS. */
 final class TextSentences extends Sheet {
     static void run() {
@@ -346,6 +348,12 @@ final class TextSentences extends Sheet {
         for (String word : new String[] {"g", "grou", "groups", "Group", "stripe", "symbols", "traitors", "deal", "z".repeat(500)}) {
             reads("  " + word + " 1 0;", -9, 2);
         }
+        for (String word : new String[] {"deal", "hear", "taint", "skew", "say", "forge", "crash", "again"}) {
+            otherLetters(word, text -> works(text + " 0;", -9, 0));
+        }
+        for (String word : new String[] {"group", "stripes", "symbol", "traitor"}) {
+            otherLetters(word, text -> reads(text + " 1;", -9, 0));
+        }
         works("de al 0;", -9, 0);
         works("deal 0 0;", -9, 7);
         works("taint 0 0 9 6;", -9, 12);
@@ -353,6 +361,14 @@ final class TextSentences extends Sheet {
         works("  again  2  [  taint  0  0  1  ;  say 0  0  1  ;  ]  ;  deal  0  ;  ", 3, -1);
         books("   0   3  ;  1   2 ;   ", 2, -1);
         otherSignsThanBlanks();
+    }
+
+    private static void otherLetters(String word, Consumer<String> test) {
+        for (int at = 0; at < word.length(); at++) {
+            char other = word.charAt(at) == 'z' ? 'a' : (char) (word.charAt(at) + 1);
+            test.accept(word.substring(0, at) + other + word.substring(at + 1));
+            test.accept(word.substring(0, at) + word.substring(at + 1));
+        }
     }
 
     private static void otherSignsThanBlanks() {
@@ -414,6 +430,7 @@ final class TextSentences extends Sheet {
         endsTooEarly("forge 0 0 1;", 5);
         endsTooEarly("crash 0;", 5);
         endsTooEarly("again 2 [ ] ;", 5);
+        rightBehindWrong();
         SumDispersal x = new SumDispersal();
         feed(x, "again 2 [again 1[deal 0;];];");
         due("the text ends at n, not at the tape's end", x.work(26), -9);
@@ -424,6 +441,27 @@ final class TextSentences extends Sheet {
         for (int end = 1; end < 4; end++) {
             books("0 0;".substring(0, end), -9, end);
         }
+    }
+
+    /** What a text with a fault left open or told is forgotten by the next one. */
+    private static void rightBehindWrong() {
+        for (String wrong : new String[] {"again 2 [", "again 2 [again 3 [deal 0;", "again1[".repeat(7), "deal 9;", "x"}) {
+            SumDispersal x = new SumDispersal();
+            work(x, wrong);
+            due("a right one behind " + wrong, work(x, "taint 0 0 1;again 2 [taint 0 0 1;];"), 3);
+            work(x, wrong);
+            due("shut behind " + wrong, work(x, "];"), -9);
+            due("its place", x.fault(), 0);
+        }
+        SumDispersal x = new SumDispersal();
+        dispersal(x, "group 1 0;stripes 3;symbol 5;traitor 0;x");
+        due("a dispersal behind a wrong one", dispersal(x, "symbol 6;"), 4);
+        due("its own symbol alone", x.vector(0, 0), 6);
+        due("no traitor", x.told(5), 0);
+        due("its stripes", x.told(2), 2);
+        book(x, "0 0;1 1;2 5;");
+        due("a book behind a wrong one", book(x, "0 3;"), 1);
+        due("1 is in no line", x.look(0), 1);
     }
 
     /** Cut behind its word the text lacks something; cut within its word it has a word that is none. */
