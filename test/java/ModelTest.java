@@ -12,11 +12,15 @@ import java.util.Set;
  * (Model): every answer, and every exception, must be alike.
  */
 public final class ModelTest {
+    /** What an object answers behind these is free. */
+    private static final int MOST_CALLS = 512;
+    private static final int CALLS_FOR_ALL = 200;
+
     private static int wrong = 0;
     private static long calls = 0;
 
     public static void main(String[] args) {
-        int runs = args.length > 0 ? Integer.parseInt(args[0]) : 400;
+        int runs = args.length > 0 ? Integer.parseInt(args[0]) : 1200;
         for (int seed = 1; seed <= runs && wrong < 20; seed++) {
             new Run(seed).go();
         }
@@ -45,6 +49,8 @@ public final class ModelTest {
         final SumDispersal real = new SumDispersal();
         final Model model = new Model();
         final List<String> log = new ArrayList<>();
+        private int left = MOST_CALLS;
+        private List<Runnable> gathered = null;
 
         Run(int seed) {
             this.seed = seed;
@@ -52,6 +58,18 @@ public final class ModelTest {
         }
 
         void due(String name, Call got, Call want) {
+            if (gathered != null) {
+                gathered.add(() -> hold(name, got, want));
+            } else {
+                hold(name, got, want);
+            }
+        }
+
+        void hold(String name, Call got, Call want) {
+            if (left == 0) {
+                return;
+            }
+            left--;
             calls++;
             String g = answer(got);
             String w = answer(want);
@@ -326,7 +344,7 @@ public final class ModelTest {
             } else if (random.nextInt(6) != 0) {
                 tellDispersal();
             }
-            for (int i = 0; i < 120 && wrong < 20; i++) {
+            for (int i = 0; i < 120 && wrong < 20 && left > CALLS_FOR_ALL; i++) {
                 int dice = random.nextInt(40);
                 if (dice == 0) {
                     tellDispersal();
@@ -429,7 +447,17 @@ public final class ModelTest {
             due("unlike", real::unlike, model::unlike);
         }
 
+        /** Of all that can be asked as much as an object may be, whatever it is. */
         void askAll() {
+            gathered = new ArrayList<>();
+            gatherAll();
+            List<Runnable> asked = gathered;
+            gathered = null;
+            java.util.Collections.shuffle(asked, random);
+            asked.forEach(Runnable::run);
+        }
+
+        void gatherAll() {
             askState();
             for (int member = -1; member <= model.n; member++) {
                 int m = member;

@@ -36,7 +36,8 @@ public final class RobustTest {
         System.out.println(what);
     }
 
-    private static void feed(SumDispersal x, byte[] text) {
+    /** Answers how many calls it took. */
+    private static int feed(SumDispersal x, byte[] text) {
         byte[] bytes = Arrays.copyOf(text, (text.length + 19) / 20 * 20);
         for (int at = 0; at < bytes.length; at += 20) {
             int[] w = new int[5];
@@ -45,6 +46,7 @@ public final class RobustTest {
             }
             x.feed(w[0], w[1], w[2], w[3], w[4]);
         }
+        return bytes.length / 20;
     }
 
     private static List<Method> face() {
@@ -81,11 +83,12 @@ public final class RobustTest {
         }
     }
 
-    private static void tellAny(SumDispersal x, Random random) {
+    /** Answers how many calls it took. */
+    private static int tellAny(SumDispersal x, Random random) {
         String text = TEXTS[random.nextInt(TEXTS.length)];
         int kind = random.nextInt(3);
         x.book(0);
-        feed(x, text.getBytes(StandardCharsets.ISO_8859_1));
+        int fed = feed(x, text.getBytes(StandardCharsets.ISO_8859_1));
         if (kind == 0) {
             x.dispersal(text.length());
         } else if (kind == 1 || text.length() > 60) {
@@ -93,6 +96,7 @@ public final class RobustTest {
         } else {
             x.book(text.length());
         }
+        return fed + 2;
     }
 
     private static void anyCalls(int seed) throws IllegalAccessException {
@@ -100,14 +104,17 @@ public final class RobustTest {
         SumDispersal x = new SumDispersal();
         int[] counts = new int[6];
         List<Method> face = face();
-        for (int i = 0; i < 500; i++) {
+        // What status() answers is promised of the first 512 calls alone, and it is asked six times.
+        int used = 0;
+        while (used < 500) {
             if (random.nextInt(6) == 0) {
-                tellAny(x, random);
+                used += tellAny(x, random);
             } else if (random.nextInt(12) == 0) {
                 byte[] rubbish = new byte[1 + random.nextInt(40)];
                 random.nextBytes(rubbish);
-                feed(x, rubbish);
+                used += feed(x, rubbish);
             } else {
+                used++;
                 callAny(x, face.get(random.nextInt(face.size())), random, counts);
             }
         }
@@ -151,7 +158,7 @@ public final class RobustTest {
     }
 
     public static void main(String[] args) throws IllegalAccessException {
-        for (int seed = 0; seed < 400 && wrong < 20; seed++) {
+        for (int seed = 0; seed < 600 && wrong < 20; seed++) {
             anyCalls(seed);
         }
         room();
