@@ -140,8 +140,10 @@ public final class ReadmeTest {
 
     /** All but .ci/run, which is what runs this test. */
     private static void runCommands(String page) throws IOException, InterruptedException {
+        boolean tellsAll = false;
         for (String block : blocks(page, "sh")) {
             if (block.strip().equals(".ci/run")) {
+                tellsAll = true;
                 continue;
             }
             commands++;
@@ -150,6 +152,9 @@ public final class ReadmeTest {
             if (process.waitFor() != 0) {
                 fail("README.md: these commands fail:\n" + block + output);
             }
+        }
+        if (!tellsAll || commands == 0) {
+            fail("README.md does not tell how to run all tests, or one alone");
         }
     }
 
